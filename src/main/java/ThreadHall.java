@@ -265,9 +265,6 @@ public final class ThreadHall {
 
     /** Answers the error that the instruction ends in, so that it is raised in one place alone. */
     private int perform(Strand strand, int op, int a, int b) {
-        if (strand.marked && (op == WAIT || op == JOIN)) {
-            return INTERRUPTED;
-        }
         switch (op) {
             case SET: write(strand, a, b); break;
             case ADD: write(strand, a, read(strand, a) + b); break;
@@ -393,6 +390,9 @@ public final class ThreadHall {
         if (mutex.owner != strand.number) {
             return LOCK_NOT_HAD;
         }
+        if (strand.marked) {
+            return INTERRUPTED;
+        }
         strand.condition = c;
         strand.wantedLock = m;
         strand.wantedOften = mutex.often;
@@ -431,6 +431,9 @@ public final class ThreadHall {
         }
         if (other.state == NEW || t == strand.number) {
             return NOT_TO_JOIN;
+        }
+        if (strand.marked) {
+            return INTERRUPTED;
         }
         strand.joined = t;
         strand.joinSpecial = special;

@@ -5,7 +5,7 @@ final class InterruptTest extends Hall {
         test.answers();
         test.markIsLookedAtByWait();
         test.markIsLookedAtByJoin();
-        test.markComesBeforeOtherErrors();
+        test.markIsKeptWhereItWouldNotWaitOrJoin();
         test.markDoesNotStopOthers();
         test.markOfOneThatIsLocking();
         test.whileWaitingWithAFreeLock();
@@ -55,22 +55,33 @@ final class InterruptTest extends Hall {
         due("the next join is done", ThreadHall.JOINING, hall.look(0, STATE));
     }
 
-    /** A WAIT or JOIN of a marked thread is not done at all, so what else is wrong with it is not seen. */
-    void markComesBeforeOtherErrors() {
-        ThreadHall noLock = alone(op(WAIT, 0, 0));
-        noLock.interrupt(0);
-        noLock.run(1);
-        due("wait without the lock", -7, noLock.look(0, RESULT));
-        ThreadHall itself = alone(op(JOIN, 0, 0));
-        itself.interrupt(0);
-        itself.run(1);
-        due("join itself", -7, itself.look(0, RESULT));
-        ThreadHall over = alone(op(PASS), op(JOIN, 1, 0));
-        over.start(1);
-        over.run(2);
-        over.interrupt(0);
-        over.run(1);
-        due("join one that is over", -7, over.look(0, RESULT));
+    /** The mark is looked at where it would be WAITING or JOINING, so not where that does not come about. */
+    void markIsKeptWhereItWouldNotWaitOrJoin() {
+        ThreadHall noLock = marked(op(HANDLE, 1), op(WAIT, 0, 0));
+        due("wait without the lock", 3, noLock.special(0, 3));
+        due("wait without the lock: mark", 1, noLock.look(0, MARKED));
+        ThreadHall itself = marked(op(HANDLE, 1), op(JOIN, 0, 0));
+        due("join itself", 5, itself.special(0, 3));
+        due("join itself: mark", 1, itself.look(0, MARKED));
+        ThreadHall stillNew = marked(op(HANDLE, 1), op(JOIN, 2, 0));
+        due("join a new one", 5, stillNew.special(0, 3));
+        due("join a new one: mark", 1, stillNew.look(0, MARKED));
+        ThreadHall over = marked(op(SET, 2, 5), op(JOIN, 1, 2));
+        due("join one that is over", 0, over.special(0, 2));
+        due("join one that is over: mark", 1, over.look(0, MARKED));
+        due("no error", 0, over.count(ERRORS));
+    }
+
+    /** Thread 1 is over, and 0, marked, has done two instructions. */
+    private static ThreadHall marked(int[] first, int[] second) {
+        ThreadHall hall = new ThreadHall();
+        hall.start(1);
+        hall.run(1);
+        hall.slice(2);
+        loadAndStart(hall, 0, first, second, op(PASS));
+        hall.interrupt(0);
+        hall.run(1);
+        return hall;
     }
 
     void markDoesNotStopOthers() {
@@ -200,7 +211,7 @@ final class InterruptTest extends Hall {
     }
 
     void ofItself() {
-        ThreadHall hall = alone(op(INTERRUPT, 0), op(SAY, 0), op(PASS), op(JOIN, 1, 0));
+        ThreadHall hall = alone(op(INTERRUPT, 0), op(LOCK, 0), op(PASS), op(WAIT, 0, 0));
         hall.run(1);
         due("marked", 1, hall.look(0, MARKED));
         hall.run(1);

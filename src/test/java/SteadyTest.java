@@ -94,7 +94,8 @@ final class SteadyTest extends Hall {
             waiting += hall.lock(m, CONDITION_ROW);
             tally((owner == -1) == (hall.lock(m, OFTEN) == 0), "run " + run + ": had by none, but so and so often");
             tally(owner != -1 || hall.lock(m, LOCK_ROW) == 0, "run " + run + ": a row for a lock that is free");
-            tally(owner == -1 || hall.look(owner, STATE) != ThreadHall.OVER, "run " + run + ": had by one that is over");
+            boolean hadByOver = owner != -1 && hall.look(owner, STATE) == ThreadHall.OVER;
+            tally(!hadByOver, "run " + run + ": had by one that is over");
         }
         due("run " + run + ": locking", stand[ThreadHall.LOCKING], locking);
         due("run " + run + ": waiting", stand[ThreadHall.WAITING], waiting);
