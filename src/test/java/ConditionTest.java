@@ -1,17 +1,7 @@
 /** The instructions WAIT, TELL and TELLALL. */
 final class ConditionTest extends Hall {
     public static void main(String[] args) {
-        ConditionTest test = new ConditionTest();
-        test.waitGivesTheLockAway();
-        test.waitWithoutTheLock();
-        test.tellTheFirst();
-        test.tellAllInOrder();
-        test.toldWithALockThatIsFree();
-        test.toldGoesBehindOthers();
-        test.tellNone();
-        test.conditionsAreApart();
-        test.waitersOfSeveralLocks();
-        test.close();
+        new ConditionTest().runAll();
     }
 
     void waitGivesTheLockAway() {
@@ -28,19 +18,6 @@ final class ConditionTest extends Hall {
         due("1 has it", 1, hall.lock(0, OWNER));
         due("once", 1, hall.lock(0, OFTEN));
         due("1 is ready", ThreadHall.READY, hall.look(1, STATE));
-    }
-
-    void waitWithoutTheLock() {
-        ThreadHall hall = alone(op(LOCK, 0), op(WAIT, 0, 1));
-        loadAndStart(hall, 1, op(LOCK, 1), op(PASS), op(PASS));
-        hall.run(2);
-        due("none has it", -3, hall.look(0, RESULT));
-        hall.clear(0);
-        loadAndStart(hall, 0, op(WAIT, 0, 1));
-        hall.run(2);
-        due("another has it", -3, hall.look(0, RESULT));
-        due("no row", 0, hall.lock(0, CONDITION_ROW));
-        due("the other keeps it", 1, hall.lock(1, OWNER));
     }
 
     /** Threads t of the row wait for condition 1, in its order; then 4 is to do what is given. */
@@ -106,12 +83,6 @@ final class ConditionTest extends Hall {
         due("then the one that was told", 0, hall.lock(0, OWNER));
         due("as often as before", 2, hall.lock(0, OFTEN));
         due("ready", ThreadHall.READY, hall.look(0, STATE));
-    }
-
-    void tellNone() {
-        ThreadHall hall = alone(op(TELL, 0), op(TELLALL, 1), op(LOCK, 0), op(WAIT, 0, 0));
-        due("nothing comes of it", 4, hall.run(40));
-        due("a later one waits all the same", ThreadHall.WAITING, hall.look(0, STATE));
     }
 
     void conditionsAreApart() {

@@ -1,20 +1,7 @@
 /** Errors, handlers, hooks and endings. */
 final class EndingTest extends Hall {
     public static void main(String[] args) {
-        EndingTest test = new EndingTest();
-        test.resultIsTakenBeforeTheHooks();
-        test.hooksInItsBindings();
-        test.hooksWrapAndAddUp();
-        test.hooksOfAnError();
-        test.tooManyHooks();
-        test.handlerServesOnce();
-        test.handlerIsTakenBack();
-        test.handlerSetsABinding();
-        test.handlerInTheSameTurn();
-        test.everyErrorEnds();
-        test.whatIsGoneAtTheEnd();
-        test.endLeavesTheRestUndone();
-        test.close();
+        new EndingTest().runAll();
     }
 
     void resultIsTakenBeforeTheHooks() {
@@ -49,19 +36,6 @@ final class EndingTest extends Hall {
         due("result", -2, hall.look(0, RESULT));
     }
 
-    void tooManyHooks() {
-        ThreadHall hall = alone(op(HOOK, 0, 1), op(HOOK, 0, 2), op(HOOK, 0, 4), op(HOOK, 0, 8), op(PASS),
-            op(HANDLE, 7), op(HOOK, 0, 16), op(PASS));
-        hall.run(1);
-        due("four", 4, hall.look(0, HOOKS));
-        due("no error", 0, hall.count(ERRORS));
-        hall.run(1);
-        due("still four", 4, hall.look(0, HOOKS));
-        due("error 6", 6, hall.special(0, 3));
-        hall.run(1);
-        due("the fifth is not done", 15, hall.special(0, 0));
-    }
-
     void handlerServesOnce() {
         ThreadHall hall = alone(op(HANDLE, 3), op(UNBIND, 0), op(SAY, 0), op(SAY, 3), op(PASS), op(UNLOCK, 0));
         hall.run(1);
@@ -82,32 +56,12 @@ final class EndingTest extends Hall {
         due("none", -2, hall.look(0, RESULT));
     }
 
-    void handlerSetsABinding() {
-        ThreadHall hall = alone(op(BIND, 3, 50), op(HANDLE, 3), op(UNLOCK, 1), op(SAY, 3), op(UNBIND, 3), op(SAY, 3));
-        hall.run(1);
-        dueSaid("in the binding alone", hall, 3, 0);
-    }
-
     void handlerInTheSameTurn() {
         ThreadHall hall = new ThreadHall();
         loadAndStart(hall, 0, op(HANDLE, 2), op(UNBIND, 0), op(SAY, 3), op(SAY, 3), op(SAY, 3));
         due("the slice goes on", 4, hall.run(1));
         due("two are said", 2, hall.count(SAIDS));
         due("place", 4, hall.look(0, PLACE));
-    }
-
-    void everyErrorEnds() {
-        int[][] wrong = {op(UNBIND, 0), op(UNLOCK, 0), op(WAIT, 0, 0), op(START, 0), op(JOIN, 0, 0), op(JOIN, 1, 0)};
-        int[] number = {2, 3, 3, 4, 5, 5};
-        for (int k = 0; k < wrong.length; k++) {
-            ThreadHall hall = alone(wrong[k], op(SAY, 0));
-            due("it is counted " + k, 1, hall.run(40));
-            due("result " + k, -number[k], hall.look(0, RESULT));
-            due("over " + k, ThreadHall.OVER, hall.look(0, STATE));
-            due("special 3 is not set " + k, 0, hall.special(0, 3));
-            due("errors " + k, 1, hall.count(ERRORS));
-            due("ended " + k, 1, hall.count(ENDED));
-        }
     }
 
     void whatIsGoneAtTheEnd() {

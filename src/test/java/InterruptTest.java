@@ -1,24 +1,7 @@
 /** Promise 6 and the instruction INTERRUPT. */
 final class InterruptTest extends Hall {
     public static void main(String[] args) {
-        InterruptTest test = new InterruptTest();
-        test.answers();
-        test.markIsLookedAtByWait();
-        test.markIsLookedAtByJoin();
-        test.markIsKeptWhereItWouldNotWaitOrJoin();
-        test.markDoesNotStopOthers();
-        test.markOfOneThatIsLocking();
-        test.whileWaitingWithAFreeLock();
-        test.whileWaitingWithATakenLock();
-        test.outOfTheMiddleOfTheRow();
-        test.whileJoining();
-        test.twice();
-        test.byInstruction();
-        test.ofItself();
-        test.throwIsNoInstruction();
-        test.markIsGoneAtTheEnd();
-        test.wrongThreads();
-        test.close();
+        new InterruptTest().runAll();
     }
 
     void answers() {
@@ -145,21 +128,6 @@ final class InterruptTest extends Hall {
         dueSaid("thrown", hall, 7);
     }
 
-    void outOfTheMiddleOfTheRow() {
-        ThreadHall hall = new ThreadHall();
-        for (int t = 0; t < 3; t++) {
-            loadAndStart(hall, t, op(BIND, 0, t), op(LOCK, 0), op(WAIT, 0, 0), op(SAY, 0));
-        }
-        hall.run(3);
-        hall.interrupt(1);
-        due("row", 2, hall.lock(0, CONDITION_ROW));
-        hall.run(1);
-        due("it ends", -7, hall.look(1, RESULT));
-        loadAndStart(hall, 4, op(TELL, 0), op(TELL, 0));
-        hall.run(40);
-        dueSaid("the others keep their order", hall, 0, 2);
-    }
-
     void whileJoining() {
         ThreadHall hall = alone(op(JOIN, 1, 0), op(SAY, 0));
         loadAndStart(hall, 1, op(PASS), op(SET, 1, 3), op(END, 1));
@@ -242,12 +210,5 @@ final class InterruptTest extends Hall {
         loadAndStart(hall, 0, op(LOCK, 0), op(WAIT, 0, 0));
         hall.run(1);
         due("it waits", ThreadHall.WAITING, hall.look(0, STATE));
-    }
-
-    void wrongThreads() {
-        ThreadHall hall = new ThreadHall();
-        for (int wrong : new int[] {-1, 5, Integer.MIN_VALUE, Integer.MAX_VALUE}) {
-            dueIllegalArgument("interrupt " + wrong, () -> hall.interrupt(wrong));
-        }
     }
 }

@@ -1,15 +1,7 @@
 /** The instruction JOIN. */
 final class JoinTest extends Hall {
     public static void main(String[] args) {
-        JoinTest test = new JoinTest();
-        test.joinOneThatIsOver();
-        test.joinOneThatIsAlive();
-        test.severalJoinOne();
-        test.joinOneThatIsNewOrItself();
-        test.joinOneThatBlocks();
-        test.resultOfAnError();
-        test.resultAfterAQuickRestart();
-        test.close();
+        new JoinTest().runAll();
     }
 
     void joinOneThatIsOver() {
@@ -50,15 +42,6 @@ final class JoinTest extends Hall {
             due(t + " has the result", -9, hall.special(t, t));
         }
         due("none joins", 0, hall.look(4, JOINERS));
-    }
-
-    void joinOneThatIsNewOrItself() {
-        ThreadHall hall = alone(op(JOIN, 1, 0));
-        loadAndStart(hall, 2, op(JOIN, 2, 0));
-        hall.run(2);
-        due("new", -5, hall.look(0, RESULT));
-        due("itself", -5, hall.look(2, RESULT));
-        due("errors", 2, hall.count(ERRORS));
     }
 
     void joinOneThatBlocks() {

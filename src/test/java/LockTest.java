@@ -1,18 +1,7 @@
 /** Promise 11 and the instructions LOCK, UNLOCK and TRY. */
 final class LockTest extends Hall {
     public static void main(String[] args) {
-        LockTest test = new LockTest();
-        test.lockAgain();
-        test.goesToTheFirstOfTheRow();
-        test.firstComeFirstServed();
-        test.unlockWithoutIt();
-        test.tryLock();
-        test.tryIntoABinding();
-        test.locksAreApart();
-        test.endingPassesLocksOn();
-        test.endingOfOneThatHadItOften();
-        test.wrongNumbers();
-        test.close();
+        new LockTest().runAll();
     }
 
     void lockAgain() {
@@ -62,20 +51,6 @@ final class LockTest extends Hall {
         due("had by none", -1, hall.lock(0, OWNER));
     }
 
-    void unlockWithoutIt() {
-        ThreadHall hall = alone(op(LOCK, 0), op(PASS), op(GO, 1));
-        loadAndStart(hall, 1, op(UNLOCK, 0));
-        loadAndStart(hall, 2, op(UNLOCK, 1));
-        loadAndStart(hall, 3, op(LOCK, 2), op(UNLOCK, 2), op(UNLOCK, 2));
-        hall.run(4);
-        due("another has it", -3, hall.look(1, RESULT));
-        due("none has it", -3, hall.look(2, RESULT));
-        due("no more has it", -3, hall.look(3, RESULT));
-        due("it still has it", 0, hall.lock(0, OWNER));
-        due("once", 1, hall.lock(0, OFTEN));
-        due("still none", -1, hall.lock(1, OWNER));
-    }
-
     void tryLock() {
         ThreadHall hall = alone(op(SET, 1, 5), op(TRY, 0, 1), op(SAY, 1), op(TRY, 0, 2), op(SAY, 2), op(PASS),
             op(UNLOCK, 0), op(UNLOCK, 0), op(PASS));
@@ -114,25 +89,6 @@ final class LockTest extends Hall {
         }
     }
 
-    void endingPassesLocksOn() {
-        ThreadHall hall = alone(op(LOCK, 0), op(LOCK, 1), op(LOCK, 2), op(PASS), op(END, 0));
-        loadAndStart(hall, 1, op(LOCK, 1), op(PASS), op(PASS));
-        loadAndStart(hall, 2, op(LOCK, 0), op(PASS), op(PASS));
-        loadAndStart(hall, 3, op(LOCK, 0), op(PASS), op(PASS));
-        hall.run(4);
-        due("row of 0", 2, hall.lock(0, LOCK_ROW));
-        hall.run(1);
-        due("over", ThreadHall.OVER, hall.look(0, STATE));
-        due("0 goes to 2", 2, hall.lock(0, OWNER));
-        due("3 stays in its row", 1, hall.lock(0, LOCK_ROW));
-        due("1 goes to 1", 1, hall.lock(1, OWNER));
-        due("2 goes to none", -1, hall.lock(2, OWNER));
-        due("2, how often", 0, hall.lock(2, OFTEN));
-        due("1 is ready", ThreadHall.READY, hall.look(1, STATE));
-        due("2 is ready", ThreadHall.READY, hall.look(2, STATE));
-        due("3 is locking", ThreadHall.LOCKING, hall.look(3, STATE));
-    }
-
     void endingOfOneThatHadItOften() {
         ThreadHall hall = alone(op(LOCK, 0), op(LOCK, 0), op(PASS), op(UNBIND, 0));
         loadAndStart(hall, 1, op(LOCK, 0), op(PASS), op(PASS));
@@ -140,16 +96,5 @@ final class LockTest extends Hall {
         due("ended by an error", -2, hall.look(0, RESULT));
         due("owner", 1, hall.lock(0, OWNER));
         due("once", 1, hall.lock(0, OFTEN));
-    }
-
-    void wrongNumbers() {
-        ThreadHall hall = new ThreadHall();
-        for (int wrong : new int[] {-1, 3, Integer.MIN_VALUE, Integer.MAX_VALUE}) {
-            dueIllegalArgument("lock " + wrong, () -> hall.lock(wrong, 0));
-            dueIllegalArgument("condition " + wrong, () -> hall.lock(wrong, 3));
-        }
-        for (int wrong : new int[] {-1, 4, Integer.MIN_VALUE, Integer.MAX_VALUE}) {
-            dueIllegalArgument("what " + wrong, () -> hall.lock(0, wrong));
-        }
     }
 }

@@ -8,13 +8,7 @@ import java.util.TreeSet;
 /** Promise 1, the constants and the face. */
 final class NewObjectTest extends Hall {
     public static void main(String[] args) {
-        NewObjectTest test = new NewObjectTest();
-        test.constants();
-        test.newThreads();
-        test.newLocksAndCounts();
-        test.objectsAreApart();
-        test.onlyTheFaceIsVisible();
-        test.close();
+        new NewObjectTest().runAll();
     }
 
     void constants() {

@@ -1,30 +1,7 @@
 /** Promises 8 and 9: global values and bindings, and what is read and set. */
 final class SpecialTest extends Hall {
     public static void main(String[] args) {
-        SpecialTest test = new SpecialTest();
-        test.globalAnswersWhatItWas();
-        test.setAddMove();
-        test.addWraps();
-        test.bindingsAreForOneThread();
-        test.latestBindingCounts();
-        test.unbindTakesTheLatestOfItsSpecial();
-        test.moveBetweenBindings();
-        test.tooManyBindings();
-        test.unbindWithoutBinding();
-        test.globalBehindABinding();
-        test.onesThatAreNotAlive();
-        test.wrongNumbers();
-        test.close();
-    }
-
-    void globalAnswersWhatItWas() {
-        ThreadHall hall = new ThreadHall();
-        for (int s = 0; s < 4; s++) {
-            due("first", 0, hall.global(s, s + 1));
-            due("second", s + 1, hall.global(s, Integer.MIN_VALUE));
-            due("third", Integer.MIN_VALUE, hall.global(s, 10 * s));
-        }
-        due("others stay", 20, hall.special(0, 2));
+        new SpecialTest().runAll();
     }
 
     void setAddMove() {
@@ -33,14 +10,6 @@ final class SpecialTest extends Hall {
         due("set", 1, hall.special(0, 0));
         due("moved", -2, hall.special(0, 1));
         due("moved to itself", 0, hall.special(4, 2));
-    }
-
-    void addWraps() {
-        ThreadHall hall = alone(op(SET, 0, Integer.MAX_VALUE), op(ADD, 0, 1), op(SET, 1, Integer.MIN_VALUE),
-            op(ADD, 1, Integer.MIN_VALUE));
-        hall.run(1);
-        due("wraps", Integer.MIN_VALUE, hall.special(0, 0));
-        due("wraps to 0", 0, hall.special(0, 1));
     }
 
     void bindingsAreForOneThread() {
@@ -85,57 +54,5 @@ final class SpecialTest extends Hall {
         dueSaid("into the binding alone", hall, 7, 0);
         due("out of a binding", 9, hall.special(0, 2));
         due("the global behind it", 7, hall.special(0, 1));
-    }
-
-    void tooManyBindings() {
-        ThreadHall hall = new ThreadHall();
-        hall.slice(12);
-        for (int k = 0; k < 13; k++) {
-            hall.add(0, BIND, k % 4, k);
-        }
-        hall.start(0);
-        hall.run(1);
-        due("twelve together", 12, hall.look(0, BINDINGS));
-        due("no error", 0, hall.count(ERRORS));
-        due("special 0", 8, hall.special(0, 0));
-        due("special 3", 11, hall.special(0, 3));
-        hall.run(1);
-        due("the thirteenth", -1, hall.look(0, RESULT));
-        due("an error", 1, hall.count(ERRORS));
-        due("none when over", 0, hall.look(0, BINDINGS));
-    }
-
-    void unbindWithoutBinding() {
-        ThreadHall hall = alone(op(BIND, 1, 5), op(UNBIND, 0));
-        hall.run(1);
-        due("another's binding does not count", -2, hall.look(0, RESULT));
-    }
-
-    void globalBehindABinding() {
-        ThreadHall hall = alone(op(BIND, 0, 5), op(PASS), op(UNBIND, 0), op(SAY, 0));
-        hall.run(1);
-        due("global", 0, hall.global(0, 33));
-        due("the binding is as it was", 5, hall.special(0, 0));
-        hall.run(1);
-        dueSaid("unbound", hall, 33);
-    }
-
-    void onesThatAreNotAlive() {
-        ThreadHall hall = alone(op(BIND, 0, 5), op(SET, 1, 6));
-        hall.run(1);
-        due("over, not bound", 0, hall.special(0, 0));
-        due("over, global", 6, hall.special(0, 1));
-        due("new, global", 6, hall.special(4, 1));
-    }
-
-    void wrongNumbers() {
-        ThreadHall hall = new ThreadHall();
-        for (int wrong : new int[] {-1, 4, Integer.MIN_VALUE, Integer.MAX_VALUE}) {
-            dueIllegalArgument("global " + wrong, () -> hall.global(wrong, 1));
-            dueIllegalArgument("special " + wrong, () -> hall.special(0, wrong));
-        }
-        for (int wrong : new int[] {-1, 5, Integer.MIN_VALUE, Integer.MAX_VALUE}) {
-            dueIllegalArgument("special of thread " + wrong, () -> hall.special(wrong, 0));
-        }
     }
 }

@@ -1,15 +1,7 @@
 /** Promise 4 and the instruction START. */
 final class StartTest extends Hall {
     public static void main(String[] args) {
-        StartTest test = new StartTest();
-        test.startAnswers();
-        test.startDoesNoInstruction();
-        test.startAgain();
-        test.startWithoutWhatWas();
-        test.startByInstruction();
-        test.startOfOneThatIsAlive();
-        test.wrongThreads();
-        test.close();
+        new StartTest().runAll();
     }
 
     void startAnswers() {
@@ -74,27 +66,5 @@ final class StartTest extends Hall {
         hall.run(2);
         due("started when over", 2, hall.look(2, STARTS));
         dueSaid("by the one started again", hall, 1, 1);
-    }
-
-    void startOfOneThatIsAlive() {
-        ThreadHall hall = alone(op(HANDLE, 2), op(START, 0), op(SAY, 3), op(START, 1), op(SAY, 3));
-        loadAndStart(hall, 1, op(LOCK, 0), op(WAIT, 0, 0));
-        hall.run(1);
-        dueSaid("itself", hall, 4);
-        due("another that is alive", -4, hall.look(0, RESULT));
-        due("that one did not start", 1, hall.look(1, STARTS));
-        hall.start(0);
-        hall.run(1);
-        due("that one is waiting", ThreadHall.WAITING, hall.look(1, STATE));
-        hall.run(1);
-        due("one that waits", -4, hall.look(0, RESULT));
-        due("it still waits", ThreadHall.WAITING, hall.look(1, STATE));
-    }
-
-    void wrongThreads() {
-        ThreadHall hall = new ThreadHall();
-        for (int wrong : new int[] {-1, 5, Integer.MIN_VALUE, Integer.MAX_VALUE}) {
-            dueIllegalArgument("start " + wrong, () -> hall.start(wrong));
-        }
     }
 }

@@ -1,16 +1,7 @@
 /** Promises 10, 12 and 13: look, said and count. */
 final class TellingTest extends Hall {
     public static void main(String[] args) {
-        TellingTest test = new TellingTest();
-        test.lookAtOneThatRuns();
-        test.lookAtPlaces();
-        test.lookChangesNothing();
-        test.saidKeepsTheFirstForty();
-        test.saidInTheOrderOfAll();
-        test.counts();
-        test.endedCountsEveryEnding();
-        test.wrongNumbers();
-        test.close();
+        new TellingTest().runAll();
     }
 
     void lookAtOneThatRuns() {
@@ -37,34 +28,6 @@ final class TellingTest extends Hall {
             hall.run(1);
             due("place", place, hall.look(0, PLACE));
         }
-    }
-
-    void lookChangesNothing() {
-        ThreadHall hall = alone(op(SAY, 0), op(PASS), op(SAY, 0), op(PASS));
-        hall.run(1);
-        for (int k = 0; k < 2; k++) {
-            due("place", 2, hall.look(0, PLACE));
-            due("count", 1, hall.count(SAIDS));
-            due("said", 0, hall.said(0));
-        }
-    }
-
-    void saidKeepsTheFirstForty() {
-        ThreadHall hall = alone(op(SAY, 0), op(ADD, 0, 1), op(PASS), op(GO, 0));
-        hall.run(39);
-        due("39 are said", 39, hall.count(SAIDS));
-        dueOutOfBounds("said 39, not yet", () -> hall.said(39));
-        hall.run(1);
-        due("said 39", 39, hall.said(39));
-        hall.run(5);
-        due("all count", 45, hall.count(SAIDS));
-        due("said 0", 0, hall.said(0));
-        due("said 39 stays", 39, hall.said(39));
-        dueOutOfBounds("said 40", () -> hall.said(40));
-        dueOutOfBounds("said 44", () -> hall.said(44));
-        dueOutOfBounds("said -1", () -> hall.said(-1));
-        dueOutOfBounds("said least", () -> hall.said(Integer.MIN_VALUE));
-        dueOutOfBounds("said most", () -> hall.said(Integer.MAX_VALUE));
     }
 
     void saidInTheOrderOfAll() {
@@ -106,19 +69,6 @@ final class TellingTest extends Hall {
             due("ended", k, hall.count(ENDED));
             due("started", k, hall.look(2, STARTS));
             due("turns", k, hall.count(TURNS));
-        }
-    }
-
-    void wrongNumbers() {
-        ThreadHall hall = new ThreadHall();
-        for (int wrong : new int[] {-1, 5, Integer.MIN_VALUE, Integer.MAX_VALUE}) {
-            dueIllegalArgument("look at thread " + wrong, () -> hall.look(wrong, 0));
-        }
-        for (int wrong : new int[] {-1, 10, Integer.MIN_VALUE, Integer.MAX_VALUE}) {
-            dueIllegalArgument("look at what " + wrong, () -> hall.look(0, wrong));
-        }
-        for (int wrong : new int[] {-1, 8, Integer.MIN_VALUE, Integer.MAX_VALUE}) {
-            dueIllegalArgument("count what " + wrong, () -> hall.count(wrong));
         }
     }
 }

@@ -1,21 +1,7 @@
 /** Promises 5 and 7: run and slice; who has a turn, and how long. */
 final class TurnTest extends Hall {
     public static void main(String[] args) {
-        TurnTest test = new TurnTest();
-        test.turnsGoRoundAbout();
-        test.aTurnIsASlice();
-        test.sliceFromTheNextTurnOn();
-        test.passEndsATurn();
-        test.blockingEndsATurn();
-        test.endOfTheProgram();
-        test.endBehindAFullSlice();
-        test.jumps();
-        test.placesBehindTheProgram();
-        test.startedOneHasItsTurnInOrder();
-        test.runEndsWhereNoneIsReady();
-        test.mostTurns();
-        test.wrongNumbers();
-        test.close();
+        new TurnTest().runAll();
     }
 
     private static ThreadHall threeThatSay() {
@@ -112,22 +98,6 @@ final class TurnTest extends Hall {
         dueSaid("over what was jumped", hall, 1);
     }
 
-    void placesBehindTheProgram() {
-        for (int p : new int[] {3, 4, 24}) {
-            ThreadHall go = alone(op(GO, p), op(SAY, 0), op(SAY, 0));
-            due("go " + p, 1, go.run(40));
-            due("go " + p + " ends", ThreadHall.OVER, go.look(0, STATE));
-            due("go " + p + " result", 0, go.look(0, RESULT));
-            ThreadHall ifZero = alone(op(IFZERO, 0, p), op(SAY, 0), op(SAY, 0));
-            due("ifzero " + p, 1, ifZero.run(40));
-            due("ifzero " + p + " ends", ThreadHall.OVER, ifZero.look(0, STATE));
-        }
-        ThreadHall handled = alone(op(HANDLE, 23), op(UNBIND, 0), op(SAY, 0));
-        due("handler behind", 2, handled.run(40));
-        due("handler behind: result", 0, handled.look(0, RESULT));
-        due("handler behind: special 3", 2, handled.special(0, 3));
-    }
-
     void startedOneHasItsTurnInOrder() {
         ThreadHall hall = new ThreadHall();
         loadAndStart(hall, 2, op(START, 1), op(START, 3), op(PASS), op(SET, 0, 2), op(SAY, 0));
@@ -144,23 +114,5 @@ final class TurnTest extends Hall {
         due("none is ready", 0, hall.run(1));
         due("no more turns", 1, hall.count(TURNS));
         due("last", 0, hall.count(LAST));
-    }
-
-    void mostTurns() {
-        ThreadHall hall = alone(op(GO, 0));
-        due("40 turns of 20", 800, hall.run(40));
-        due("turns", 40, hall.count(TURNS));
-    }
-
-    void wrongNumbers() {
-        ThreadHall hall = alone(op(GO, 0));
-        for (int wrong : new int[] {0, -1, 41, Integer.MIN_VALUE, Integer.MAX_VALUE}) {
-            dueIllegalArgument("run " + wrong, () -> hall.run(wrong));
-        }
-        for (int wrong : new int[] {0, -1, 21, Integer.MIN_VALUE, Integer.MAX_VALUE}) {
-            dueIllegalArgument("slice " + wrong, () -> hall.slice(wrong));
-        }
-        due("slice is as it was", 20, hall.slice(1));
-        due("nothing was run", 0, hall.count(INSTRUCTIONS));
     }
 }
